@@ -201,8 +201,8 @@ public final class MustardTreaty {
         if (n < 1 || n > Search.MOST_TURNS) {
             return BAD;
         }
-        search.run(table, n, Search.ALL_CLAUSES);
-        return row ? search.bestRow : search.bestWorth;
+        int most = search.mostBy(table, n, Search.ALL_CLAUSES);
+        return row ? search.bestRow : most;
     }
 
     public int hot(int clause, int n) {
@@ -288,10 +288,13 @@ public final class MustardTreaty {
         if (!rules.hasEnvoy(envoy)) {
             return UNKNOWN;
         }
+        int itself = 1 << envoy;
         int gains = 0;
         for (int there = 0; there < 1 << rules.envoys; there++) {
-            if ((there >> envoy & 1) == 0) {
-                gains += ordersWith(there) * search.gainBy(table, envoy, there);
+            if ((there & itself) == 0) {
+                int without = search.mostBy(table, 2, rules.clausesOf(there));
+                int with = search.mostBy(table, 2, rules.clausesOf(there | itself));
+                gains += ordersWith(there) * (with - without);
             }
         }
         return fraction(gains, factorial(rules.envoys), upper);
@@ -880,7 +883,7 @@ public final class MustardTreaty {
         private final Table[] behind = new Table[MOST_TURNS + 1];
         private int turns;
         private int allowed;
-        int bestWorth;
+        private int bestWorth;
         int bestRow;
 
         Search(Rules rules) {
@@ -890,13 +893,14 @@ public final class MustardTreaty {
             }
         }
 
-        void run(Table table, int n, int clauseBits) {
+        int mostBy(Table table, int n, int clauseBits) {
             turns = Math.min(n, MOST_TURNS);
             allowed = clauseBits;
             bestWorth = -1;
             bestRow = 1;
             behind[0].copyFrom(table);
             goOn(0, 1, 0);
+            return bestWorth;
         }
 
         private void goOn(int taken, int row, int worth) {
@@ -919,14 +923,6 @@ public final class MustardTreaty {
                     goOn(taken + 1, 10 * row + clause + 1, worth + rules.worth(clause));
                 }
             }
-        }
-
-        /** By how much the best for 2 is more when this envoy comes to those who are there. */
-        int gainBy(Table table, int envoy, int there) {
-            run(table, 2, rules.clausesOf(there | 1 << envoy));
-            int withIt = bestWorth;
-            run(table, 2, rules.clausesOf(there));
-            return withIt - bestWorth;
         }
     }
 

@@ -48,6 +48,9 @@ public final class ChancesTest {
      */
     private static void bothInPain() {
         rest(Check.talking("M20E010E010"), 0, 1, 2, 4);
+        // One bite hurts by 1: against 4, 0 loses 4 and 4 loses 3; with a weeper's 2 it is 4 and 4.
+        rest(Check.talking("M10E010E010"), 0, 1, 1, 44);
+        rest(Check.talking("M10E012E012"), 0, 1, 3, 4);
     }
 
     private static void chance(MustardTreaty x, int n, int tenths, int above, int below) {

@@ -174,6 +174,11 @@ public final class HowLongTest {
         MustardTreaty four = Check.talking("M00E990E990E990E990C100C101C102C103");
         share(four, 0, 1, 2);
         share(four, 3, 1, 2);
+        MustardTreaty full = Check.talking("M00E990E990E990E990C100C100C101C102C103");
+        // Two can be said: who has two gains 2 as the first, 1 as the second; the rest is shared alike.
+        share(full, 0, 3, 4);
+        share(full, 1, 5, 12);
+        share(full, 3, 5, 12);
         MustardTreaty idle = Check.talking("M00E990E990C100");
         share(idle, 1, 0, 1);
         share(idle, 0, 1, 1);

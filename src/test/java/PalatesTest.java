@@ -29,6 +29,11 @@ public final class PalatesTest {
         check.due("unsee() of none", x.unsee(), 0);
         check.due("palates() behind unsee", x.palates(3), 1023);
         check.due("see behind unsee", x.see(1, 0, 0), 1);
+        x.see(0, 9, 9);
+        x.unsee();
+        check.due("what was SEEN last does not count behind unsee", x.palates(0), 1023);
+        x.see(1, 0, 0);
+        check.due("nor behind another one", x.palates(0), 1023);
     }
 
     private static int palatesBy(int kind, int h, int t) {

@@ -81,6 +81,7 @@ public final class TalkTest {
         fault("M00E993", -9);
         fault("M00E994", 6);
         fault("M00E90", 5);
+        fault("M00E9:", 5);
         fault("M00E/", 4);
         fault("M00E:", 4);
         fault("M00E010C", 8);
