@@ -21,6 +21,11 @@ final class Check {
         }
     }
 
+    /** Whether there were answers, and each as due. */
+    boolean allAsDue() {
+        return right > 0 && wrong == 0;
+    }
+
     void end() {
         System.out.println(right + " as due, " + wrong + " not");
         if (wrong != 0) {
@@ -51,12 +56,14 @@ final class Check {
         for (int what = 0; what <= 10; what++) {
             b.append(x.about(what)).append(' ');
         }
-        for (int e = 0; e < x.about(0); e++) {
+        int envoys = x.about(0);
+        for (int e = 0; e < envoys; e++) {
             for (int what = 0; what <= 5; what++) {
                 b.append(x.envoy(e, what)).append(' ');
             }
         }
-        for (int c = 0; c < x.about(1); c++) {
+        int clauses = x.about(1);
+        for (int c = 0; c < clauses; c++) {
             for (int what = 0; what <= 3; what++) {
                 b.append(x.clause(c, what)).append(' ');
             }
