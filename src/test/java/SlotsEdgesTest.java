@@ -163,7 +163,7 @@ public final class SlotsEdgesTest {
         x.bite();
         x.spice();
         x.keep(0);
-        String was = Check.seenOf(x);
+        String was = withoutActs(x);
         x.undo();
         x.undo();
         x.undo();
@@ -176,7 +176,14 @@ public final class SlotsEdgesTest {
         c.due("TEARS of 0", x.envoy(0, 3), 9);
         c.due("TEARS of 1", x.envoy(1, 3), 9);
         c.due("BREAD of 1", x.envoy(1, 5), 1);
-        c.holds("but for the ACTS it is the same", !Check.seenOf(x).equals(was));
+        c.holds("but for the ACTS it is the same", withoutActs(x).equals(was));
+    }
+
+    /** All that can be read but ACTS, which is what about(8) tells. */
+    private static String withoutActs(MustardTreaty x) {
+        String[] told = Check.seenOf(x).split(" ");
+        told[8] = "";
+        return String.join(" ", told);
     }
 
     static void promise29_thereAreNoActsThen(Check c) {
